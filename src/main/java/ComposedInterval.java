@@ -261,36 +261,14 @@ public final class ComposedInterval {
         if (isNobody(person) || isOutside(n, 1, 100)) {
             return tell(BEYOND);
         }
-        int best = 0;
-        int most = -1;
-        for (int spot = 0; spot < SPOTS; spot++) {
-            trial.become(present);
-            trial.at[person] = spot;
-            trial.go(n);
-            if (trial.played[person] > most) {
-                most = trial.played[person];
-                best = spot;
-            }
-        }
-        return best;
+        return bestPlayed(trial.at, SPOTS, person, n);
     }
 
     public int kind(int person, int n) {
         if (isNobody(person) || isOutside(n, 1, 100)) {
             return tell(BEYOND);
         }
-        int best = 0;
-        int most = -1;
-        for (int kind = 0; kind < KINDS; kind++) {
-            trial.become(present);
-            trial.kind[person] = kind;
-            trial.go(n);
-            if (trial.played[person] > most) {
-                most = trial.played[person];
-                best = kind;
-            }
-        }
-        return best;
+        return bestPlayed(trial.kind, KINDS, person, n);
     }
 
     public int quick(int person, int n, int v) {
@@ -413,11 +391,9 @@ public final class ComposedInterval {
     }
 
     public long write(int s, int i, long v) {
-        if (isNoSheet(s)) {
-            return tell(BEYOND);
-        }
-        if (sheets[s].isMissing()) {
-            return tell(MISSING);
+        int finding = sheetFinding(s);
+        if (finding != 0) {
+            return tell(finding);
         }
         if (isOutside(i, 0, sheets[s].size - 1)) {
             return tell(BEYOND);
@@ -445,11 +421,9 @@ public final class ComposedInterval {
     }
 
     public int lays(int s) {
-        if (isNoSheet(s)) {
-            return tell(BEYOND);
-        }
-        if (sheets[s].isMissing()) {
-            return tell(MISSING);
+        int finding = sheetFinding(s);
+        if (finding != 0) {
+            return tell(finding);
         }
         int came = 0;
         for (int q = 0; q < QUARTERS && q < sheets[s].size; q++) {
@@ -463,11 +437,9 @@ public final class ComposedInterval {
     }
 
     public int book(int s, int person) {
-        if (isNoSheet(s)) {
-            return tell(BEYOND);
-        }
-        if (sheets[s].isMissing()) {
-            return tell(MISSING);
+        int finding = sheetFinding(s);
+        if (finding != 0) {
+            return tell(finding);
         }
         if (isNobody(person)) {
             return tell(BEYOND);
@@ -481,11 +453,9 @@ public final class ComposedInterval {
     }
 
     public int read(int s, int person) {
-        if (isNoSheet(s)) {
-            return tell(BEYOND);
-        }
-        if (sheets[s].isMissing()) {
-            return tell(MISSING);
+        int finding = sheetFinding(s);
+        if (finding != 0) {
+            return tell(finding);
         }
         if (isNobody(person)) {
             return tell(BEYOND);
@@ -564,6 +534,30 @@ public final class ComposedInterval {
             told[i]++;
         }
         return finding;
+    }
+
+    /** The least of the values below a bound with which, in a row of the trial, one plays most. */
+    private int bestPlayed(int[] row, int bound, int person, int n) {
+        int best = 0;
+        int most = -1;
+        for (int v = 0; v < bound; v++) {
+            trial.become(present);
+            row[person] = v;
+            trial.go(n);
+            if (trial.played[person] > most) {
+                most = trial.played[person];
+                best = v;
+            }
+        }
+        return best;
+    }
+
+    /** What stands against the use of a sheet: BEYOND, MISSING, or 0 for nothing. */
+    private int sheetFinding(int s) {
+        if (isNoSheet(s)) {
+            return BEYOND;
+        }
+        return sheets[s].isMissing() ? MISSING : 0;
     }
 
     /** Whether the trial's minutes lead one just where the numbers tell. */
@@ -693,7 +687,8 @@ public final class ComposedInterval {
         }
 
         private int dueOf(int p) {
-            return isDeceived(p) ? 0 : guest(p).due(this, p);
+            Guest guest = guest(p);
+            return ringing >= 0 && guest.hears(this, p) ? 0 : guest.due(this, p);
         }
 
         private void go(int n) {

@@ -91,6 +91,8 @@ public final class ScoreAndPeopleTest {
         x.bell(0, 9);
         x.bell(1, 9);
         check.due("now(4), none deceived", x.now(4), 7);
+        x.set(0, 1, 1);
+        check.due("now(4), not the first", x.now(4), 6);
         check.due("now(5)", x.now(5), 100000);
         x.set(0, 3, 7);
         x.set(1, 4, 30);

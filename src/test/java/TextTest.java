@@ -136,6 +136,10 @@ public final class TextTest {
         answers("gues 1", -1);
         answers("guestquick 1", -1);
         answers("quick 1", -1);
+        answers("quest 1", -1);
+        answers("guestz 1", -1);
+        answers("guesta 1", -1);
+        answers("guest 1az", -8);
         answers("Guest 1", -1);
         answers("guesT 1", -1);
         answers("guest 1#", -8);
